@@ -21,10 +21,10 @@ public final class Rankhall {
     private static final int MOST_TUNING = 50;
     private static final int LONGEST_REST = 5;
 
-    private final Keys keys = new Keys();
-    private final Console console = new Console();
-    private final Tape tape = new Tape();
-    private final Works works = new Works(console, keys, tape);
+    private final Works works = new Works();
+    private final Keys keys = works.keys;
+    private final Console console = works.console;
+    private final Tape tape = works.tape;
     private final Memory memory = new Memory();
     private final Continuo continuo = new Continuo();
 
@@ -58,18 +58,18 @@ public final class Rankhall {
     public int stop(int division) throws IndexOutOfBoundsException, IllegalStateException {
         needDivision(division);
         needRoomForKnob();
-        return addKnob(new Stop(division));
+        return addKnob(new Knob('s', division, new Stop(), null));
     }
 
     public int row(int knob, int rank, int offset, int from, int to)
             throws IndexOutOfBoundsException, IllegalArgumentException, UnsupportedOperationException,
             IllegalStateException {
-        needKnob(knob);
+        Knob found = needKnob(knob);
         needRank(rank);
         needRange(offset, -36, 60);
         needRange(from, 0, MANUAL_KEYS - 1);
         needRange(to, from, MANUAL_KEYS - 1);
-        Stop stop = needStop(knob);
+        Stop stop = needStop(found);
         if (!stop.addRow(rank, offset, from, to)) {
             throw new IllegalStateException("the stop has 4 rows");
         }
@@ -79,13 +79,13 @@ public final class Rankhall {
 
     public int cross(int knob, int key, int other)
             throws IndexOutOfBoundsException, IllegalArgumentException, UnsupportedOperationException {
-        needKnob(knob);
+        Knob found = needKnob(knob);
         needRange(key, 0, MANUAL_KEYS - 1);
         needRange(other, 0, MANUAL_KEYS - 1);
         if (key == other) {
             throw new IllegalArgumentException("both keys are the same");
         }
-        Stop stop = needStop(knob);
+        Stop stop = needStop(found);
         stop.changePlaces(key, other);
         works.settle();
         return stop.displaced();
@@ -101,13 +101,13 @@ public final class Rankhall {
             throw new IllegalArgumentException("no such coupler");
         }
         needRoomForKnob();
-        return addKnob(new Coupler(from, to, shift, kind));
+        return addKnob(new Knob('c', from, null, new Coupler(from, to, shift, kind)));
     }
 
     public int tremulant(int division) throws IndexOutOfBoundsException, IllegalStateException {
         needDivision(division);
         needRoomForKnob();
-        return addKnob(new Knob(division, true));
+        return addKnob(new Knob('t', division, null, null));
     }
 
     public boolean draw(int knob, boolean isDrawn) throws IndexOutOfBoundsException {
@@ -123,8 +123,9 @@ public final class Rankhall {
     }
 
     public boolean isOn(int knob) throws IndexOutOfBoundsException, UnsupportedOperationException {
-        needKnob(knob);
-        return console.isSounding(needStop(knob));
+        Knob found = needKnob(knob);
+        needStop(found);
+        return console.isSounding(found);
     }
 
     public boolean lock(int knob, boolean isLocked) throws IndexOutOfBoundsException {
@@ -136,9 +137,9 @@ public final class Rankhall {
 
     public int stage(int knob, int stage)
             throws IndexOutOfBoundsException, IllegalArgumentException, UnsupportedOperationException {
-        needKnob(knob);
+        Knob found = needKnob(knob);
         needRange(stage, 0, 9);
-        Stop stop = needStop(knob);
+        Stop stop = needStop(found);
         int before = stop.stage;
         stop.stage = stage;
         works.settle();
@@ -523,7 +524,7 @@ public final class Rankhall {
     }
 
     private static void needKey(int division, int key) {
-        if (!Keys.has(division, key)) {
+        if (Keys.indexOf(division, key) < 0) {
             throw new IndexOutOfBoundsException("no such division or key");
         }
     }
@@ -580,11 +581,11 @@ public final class Rankhall {
         return found;
     }
 
-    private Stop needStop(int knob) {
-        if (console.knobAt(knob) instanceof Stop stop) {
-            return stop;
+    private static Stop needStop(Knob knob) {
+        if (knob.stop == null) {
+            throw new UnsupportedOperationException("the knob is no stop's");
         }
-        throw new UnsupportedOperationException("the knob is no stop's");
+        return knob.stop;
     }
 
     private Rank needRank(int rank) {
@@ -712,23 +713,29 @@ public final class Rankhall {
         }
     }
 
-    /** A knob: as such one that puts a unison off or a tremulant. */
-    private static class Knob {
+    /** A knob: 'u' puts a unison off, 's' is a stop's, 'c' a coupler's, 't' a tremulant's. */
+    private static final class Knob {
+        final char kind;
         final int division;
-        final boolean isTremulant;
+        // a stop's alone
+        final Stop stop;
+        // a coupler's; a unison is one, too: from its division to the same one
+        final Coupler coupler;
         boolean isOut;
         boolean isLocked;
         boolean isInScope = true;
         int relay = -1;
 
-        Knob(int division, boolean isTremulant) {
+        Knob(char kind, int division, Stop stop, Coupler coupler) {
+            this.kind = kind;
             this.division = division;
-            this.isTremulant = isTremulant;
+            this.stop = stop;
+            this.coupler = coupler;
         }
     }
 
-    /** The knob of a stop, with its rows and wires. */
-    private static final class Stop extends Knob {
+    /** The rows and wires of a stop. */
+    private static final class Stop {
         int stage;
         int rows;
         private final int[] ranks = new int[MOST_ROWS];
@@ -736,11 +743,13 @@ public final class Rankhall {
         private final int[] firsts = new int[MOST_ROWS];
         private final int[] lasts = new int[MOST_ROWS];
         private final int[] places = new int[MANUAL_KEYS];
+        // the key of each place: the wires looked at from their other end
+        private final int[] keysAt = new int[MANUAL_KEYS];
 
-        Stop(int division) {
-            super(division, false);
+        Stop() {
             for (int key = 0; key < MANUAL_KEYS; key++) {
                 places[key] = key;
+                keysAt[key] = key;
             }
         }
 
@@ -757,16 +766,21 @@ public final class Rankhall {
         }
 
         void changePlaces(int key, int other) {
-            if (placeOf(key) < 0 || placeOf(other) < 0) {
-                return;
-            }
-            int place = places[key];
-            places[key] = places[other];
-            places[other] = place;
+            int place = placeOf(key);
+            int otherPlace = placeOf(other);
+            putPlace(key, otherPlace);
+            putPlace(other, place);
         }
 
-        int placeOf(int key) {
+        private int placeOf(int key) {
             return key < 0 || key >= MANUAL_KEYS ? -1 : places[key];
+        }
+
+        private void putPlace(int key, int place) {
+            if (key >= 0 && key < MANUAL_KEYS && place >= 0 && place < MANUAL_KEYS) {
+                places[key] = place;
+                keysAt[place] = key;
+            }
         }
 
         int displaced() {
@@ -779,44 +793,58 @@ public final class Rankhall {
             return count;
         }
 
-        /** The rank of a row, -1 if there is no such row. */
-        int rankOf(int row) {
-            return row < 0 || row >= rows ? -1 : ranks[row];
+        private boolean hasRow(int row) {
+            return row >= 0 && row < rows && row < MOST_ROWS;
         }
 
-        /** The note that a row gives to a place, -1 if the row does not count for it. */
-        int noteAt(int row, int place) {
-            if (row < 0 || row >= rows || place < firsts[row] || place > lasts[row]) {
+        /** The rank of a row, -1 if there is no such row. */
+        int rankOf(int row) {
+            return hasRow(row) ? ranks[row] : -1;
+        }
+
+        /** The note that a row gives to a key, -1 if the row does not count for its place. */
+        int noteOf(int row, int key) {
+            int place = placeOf(key);
+            boolean counts = hasRow(row) && place >= firsts[row] && place <= lasts[row];
+            return counts ? FIRST_NOTE + place + offsets[row] : -1;
+        }
+
+        /** The key to which a row gives a note, -1 if there is none. */
+        int keyOf(int row, int note) {
+            if (!hasRow(row)) {
                 return -1;
             }
-            return FIRST_NOTE + place + offsets[row];
+            int place = note - FIRST_NOTE - offsets[row];
+            boolean counts = place >= firsts[row] && place <= lasts[row];
+            return counts && place >= 0 && place < MANUAL_KEYS ? keysAt[place] : -1;
         }
     }
 
-    /** The knob of a coupler; its division is that whose keys it takes. */
-    private static final class Coupler extends Knob {
-        final int target;
+    /** A way from keys of a division into a division. */
+    private static final class Coupler {
+        final int from;
+        final int to;
         final int shift;
         private final char kind;
 
         Coupler(int from, int to, int shift, char kind) {
-            super(from, false);
-            this.target = to;
+            this.from = from;
+            this.to = to;
             this.shift = shift;
             this.kind = kind;
         }
 
-        boolean takes(Keys keys, int key, int now) {
-            if (!keys.isPressed(division, key)) {
+        boolean takes(int key, Keys keys, int now) {
+            if (!keys.isPressed(from, key)) {
                 return false;
             }
             if (kind == 'm') {
-                return key == keys.highestOf(division);
+                return key == keys.highestOf(from);
             }
             if (kind == 'b') {
-                return key == keys.lowestOf(division);
+                return key == keys.lowestOf(from);
             }
-            return kind == 'a' || keys.tickOf(division, key) == now;
+            return kind == 'a' || keys.tickOf(from, key) == now;
         }
     }
 
@@ -837,14 +865,12 @@ public final class Rankhall {
             return division == 0 ? PEDAL_KEYS : MANUAL_KEYS;
         }
 
-        static boolean has(int division, int key) {
-            return isDivision(division) && key >= 0 && key < countOf(division);
-        }
-
-        /** The index of a key among those of all divisions, -1 if there is none. */
+        /** The index of a key among those of all divisions, -1 if there is no such key. */
         static int indexOf(int division, int key) {
-            boolean isThere = division >= 0 && division < DIVISIONS && key >= 0 && key < MANUAL_KEYS;
-            return isThere ? division * MANUAL_KEYS + key : -1;
+            if (division < 0 || division >= DIVISIONS || key < 0 || key >= MANUAL_KEYS) {
+                return -1;
+            }
+            return division == 0 && key >= PEDAL_KEYS ? -1 : division * MANUAL_KEYS + key;
         }
 
         boolean isPressed(int division, int key) {
@@ -858,11 +884,11 @@ public final class Rankhall {
         }
 
         int lowestOf(int division) {
-            return isDivision(division) ? lowest[division] : -1;
+            return division < 0 || division >= DIVISIONS ? -1 : lowest[division];
         }
 
         int highestOf(int division) {
-            return isDivision(division) ? highest[division] : -1;
+            return division < 0 || division >= DIVISIONS ? -1 : highest[division];
         }
 
         boolean isAnyPressed() {
@@ -871,30 +897,30 @@ public final class Rankhall {
 
         /** Returns whether the key has moved. */
         boolean put(int division, int key, boolean isPressed, int now) {
-            if (!has(division, key) || isPressed(division, key) == isPressed) {
+            int index = indexOf(division, key);
+            if (index < 0 || pressed[index] == isPressed) {
                 return false;
             }
-            int index = division * MANUAL_KEYS + key;
             pressed[index] = isPressed;
             if (isPressed) {
                 pressedAt[index] = now;
                 lastPressedAt = now;
             }
-            findEnds(division);
+            lowest[division] = firstPressed(division, 0, 1);
+            highest[division] = firstPressed(division, countOf(division) - 1, -1);
             return true;
         }
 
-        private void findEnds(int division) {
-            lowest[division] = -1;
-            highest[division] = -1;
-            for (int key = 0; key < countOf(division); key++) {
+        /** The first key that is down on the way from a key, upwards or downwards; -1 if there is none. */
+        private int firstPressed(int division, int from, int step) {
+            int key = from;
+            for (int i = 0; i < countOf(division); i++) {
                 if (isPressed(division, key)) {
-                    highest[division] = key;
-                    if (lowest[division] < 0) {
-                        lowest[division] = key;
-                    }
+                    return key;
                 }
+                key += step;
             }
+            return -1;
         }
     }
 
@@ -910,7 +936,7 @@ public final class Rankhall {
 
         Console() {
             for (int division = 0; division < DIVISIONS; division++) {
-                knobs.add(new Knob(division, false));
+                knobs.add(new Knob('u', division, null, new Coupler(division, division, 0, 'a')));
             }
         }
 
@@ -919,32 +945,41 @@ public final class Rankhall {
         }
 
         boolean countsAsDrawn(Knob knob) {
-            return knob.isOut || isRelayOn(knob.relay);
+            int relay = knob.relay;
+            return knob.isOut || (relay >= 0 && relay < RELAYS && relaysOn[relay]);
         }
 
-        boolean isSounding(Stop stop) {
-            return isTutti || countsAsDrawn(stop) || (stop.stage > 0 && crescendo >= stop.stage);
+        boolean isSounding(Knob knob) {
+            Stop stop = knob.stop;
+            if (stop == null) {
+                return false;
+            }
+            return isTutti || countsAsDrawn(knob) || (stop.stage > 0 && crescendo >= stop.stage);
         }
 
         boolean trembles(int division) {
             for (int i = 0; i < knobs.size(); i++) {
                 Knob knob = knobs.get(i);
-                if (knob.isTremulant && knob.division == division && countsAsDrawn(knob)) {
+                if (knob.kind == 't' && knob.division == division && countsAsDrawn(knob)) {
                     return true;
                 }
             }
             return false;
         }
 
+        /** Whether keys play by a knob: a unison's puts its way off, a coupler's puts it on. */
+        boolean isWay(Knob knob) {
+            return knob.coupler != null && countsAsDrawn(knob) == (knob.kind == 'c');
+        }
+
         /** By how many ways a key plays in a division. */
         int waysOf(int division, int key, Keys keys, int now) {
-            // the knob that puts a unison off has the number of its division
-            Knob unison = knobAt(division);
-            boolean isUnison = unison != null && !countsAsDrawn(unison);
-            int ways = isUnison && keys.isPressed(division, key) ? 1 : 0;
-            for (int i = DIVISIONS; i < knobs.size(); i++) {
-                if (knobs.get(i) instanceof Coupler coupler && coupler.target == division
-                        && coupler.takes(keys, key - coupler.shift, now) && countsAsDrawn(coupler)) {
+            int ways = 0;
+            for (int i = 0; i < knobs.size(); i++) {
+                Knob knob = knobs.get(i);
+                Coupler coupler = knob.coupler;
+                if (coupler != null && coupler.to == division && isWay(knob)
+                        && coupler.takes(key - coupler.shift, keys, now)) {
                     ways++;
                 }
             }
@@ -955,7 +990,7 @@ public final class Rankhall {
             if (source >= 400) {
                 return source - 400 < relay;
             }
-            return source >= 0 && (source < 100 || Keys.has(source / 100 - 1, source % 100));
+            return source >= 0 && (source < 100 || Keys.indexOf(source / 100 - 1, source % 100) >= 0);
         }
 
         void putWires(int relay, char operation, int source, int other) {
@@ -1022,7 +1057,8 @@ public final class Rankhall {
         long stopsOf(int division) {
             long set = 0L;
             for (int i = 0; i < knobs.size(); i++) {
-                if (knobs.get(i) instanceof Stop stop && stop.division == division) {
+                Knob knob = knobs.get(i);
+                if (knob.kind == 's' && knob.division == division) {
                     set |= 1L << i;
                 }
             }
@@ -1056,6 +1092,9 @@ public final class Rankhall {
 
     /** Ranks, time, wind and speech: what follows from knobs and keys. */
     private static final class Works {
+        final Keys keys = new Keys();
+        final Console console = new Console();
+        final Tape tape = new Tape();
         final ArrayList<Rank> ranks = new ArrayList<>();
         int now;
         int speakers;
@@ -1068,15 +1107,9 @@ public final class Rankhall {
         final int[] temperings = new int[OCTAVE];
         private final int[] uses = new int[DIVISIONS];
         private final int[] ways = new int[ALL_PLACES];
-        private final Console console;
-        private final Keys keys;
-        private final Tape tape;
         private boolean isWaiting;
 
-        Works(Console console, Keys keys, Tape tape) {
-            this.console = console;
-            this.keys = keys;
-            this.tape = tape;
+        Works() {
             Arrays.fill(supplies, 50);
             Arrays.fill(winds, FULL_WIND);
             Arrays.fill(openings, FULL_BOX);
@@ -1087,14 +1120,18 @@ public final class Rankhall {
         }
 
         Pipe pipeAt(int number, int note) {
-            Rank rank = rankAt(number);
+            Rank rank = number < 0 || number >= ranks.size() ? null : ranks.get(number);
             return rank == null ? null : rank.pipeOf(note);
         }
 
         /** Lets all follow that an act or a tick brings. */
         void settle() {
             console.findRelays(keys);
-            findReasons();
+            forgetReasons();
+            if (keys.isAnyPressed()) {
+                findWays();
+                findReasons();
+            }
             movePallets();
             findWinds();
             findSpeech();
@@ -1131,32 +1168,44 @@ public final class Rankhall {
             return set;
         }
 
-        private void findReasons() {
+        private void forgetReasons() {
             for (int i = 0; i < ranks.size(); i++) {
                 for (Pipe pipe : ranks.get(i).pipes) {
                     pipe.found = 0;
                 }
             }
-            if (!keys.isAnyPressed()) {
-                return;
-            }
-            for (int division = 0; division < DIVISIONS; division++) {
-                for (int key = 0; key < Keys.countOf(division); key++) {
-                    ways[division * MANUAL_KEYS + key] = console.waysOf(division, key, keys, now);
-                }
-            }
+        }
+
+        /** By how many ways each key plays. */
+        private void findWays() {
+            Arrays.fill(ways, 0);
             for (int i = 0; i < console.knobs.size(); i++) {
-                if (console.knobs.get(i) instanceof Stop stop && console.isSounding(stop)) {
-                    addReasons(stop);
+                Knob knob = console.knobs.get(i);
+                Coupler coupler = knob.coupler;
+                for (int key = 0; coupler != null && console.isWay(knob) && key < MANUAL_KEYS; key++) {
+                    int index = Keys.indexOf(coupler.to, key + coupler.shift);
+                    if (index >= 0 && coupler.takes(key, keys, now)) {
+                        ways[index]++;
+                    }
                 }
             }
         }
 
-        private void addReasons(Stop stop) {
-            for (int key = 0; key < Keys.countOf(stop.division); key++) {
-                int count = ways[stop.division * MANUAL_KEYS + key];
+        private void findReasons() {
+            for (int i = 0; i < console.knobs.size(); i++) {
+                Knob knob = console.knobs.get(i);
+                if (knob.stop != null && console.isSounding(knob)) {
+                    addReasons(knob.stop, knob.division);
+                }
+            }
+        }
+
+        private void addReasons(Stop stop, int division) {
+            for (int key = 0; key < Keys.countOf(division); key++) {
+                int index = Keys.indexOf(division, key);
+                int count = index < 0 ? 0 : ways[index];
                 for (int row = 0; count > 0 && row < stop.rows; row++) {
-                    Pipe pipe = pipeAt(stop.rankOf(row), stop.noteAt(row, stop.placeOf(key)));
+                    Pipe pipe = pipeAt(stop.rankOf(row), stop.noteOf(row, key));
                     if (pipe != null) {
                         pipe.found += count;
                     }
@@ -1169,20 +1218,13 @@ public final class Rankhall {
             Pipe pipe = pipeAt(rank, note);
             int count = pipe != null && pipe.isHeld ? 1 : 0;
             for (int i = 0; i < console.knobs.size(); i++) {
-                if (console.knobs.get(i) instanceof Stop stop && console.isSounding(stop)) {
-                    for (int row = 0; row < stop.rows; row++) {
-                        count += stop.rankOf(row) == rank ? reasonsOfRow(stop, row, note) : 0;
+                Knob knob = console.knobs.get(i);
+                Stop stop = knob.stop;
+                for (int row = 0; stop != null && row < stop.rows; row++) {
+                    int key = stop.rankOf(row) == rank ? stop.keyOf(row, note) : -1;
+                    if (Keys.indexOf(knob.division, key) >= 0 && console.isSounding(knob)) {
+                        count += console.waysOf(knob.division, key, keys, now);
                     }
-                }
-            }
-            return count;
-        }
-
-        private int reasonsOfRow(Stop stop, int row, int note) {
-            int count = 0;
-            for (int key = 0; key < Keys.countOf(stop.division); key++) {
-                if (stop.noteAt(row, stop.placeOf(key)) == note) {
-                    count += console.waysOf(stop.division, key, keys, now);
                 }
             }
             return count;

@@ -18,6 +18,7 @@ public final class FaceTests {
         compareFaces();
         findVisible();
         playLong();
+        playFull();
         if (wrong > 0) {
             System.exit(1);
         }
@@ -116,5 +117,29 @@ public final class FaceTests {
         due(organ.recorded() == kept, "what was recorded has changed");
         due(organ.pass(1) == before + 31 * span + 2, "ticks do not pass as they were");
         due(organ.isTrue(), "it is not true");
+    }
+
+    /** The fullest tape: 610 pipes that come and go with each of many acts. */
+    private static void playFull() {
+        Rankhall organ = new Rankhall();
+        for (int rank = 0; rank < 10; rank++) {
+            organ.rank(0, 127, 1, rank % 3, 0, 0, 1);
+            organ.row(organ.stop(1), rank, 0, 0, 60);
+        }
+        for (int division = 0; division < 3; division++) {
+            organ.supply(division, 999);
+        }
+        for (int key = 0; key < 61; key++) {
+            organ.key(1, key, true);
+        }
+        organ.record('r');
+        for (int i = 0; i < 60; i++) {
+            organ.tutti(i % 2 == 0);
+        }
+        due(organ.recorded() == 36600, organ.recorded() + " pipes were recorded");
+        due(organ.ended() == 18300, organ.ended() + " pipes have ended");
+        due(organ.playBack() == 18300, "not all pipes begin again");
+        due(organ.begun(9, 96) == 60, "the last pipe has begun " + organ.begun(9, 96) + " times");
+        due(organ.speaking() == 0 && organ.isTrue(), "it is not true behind the fullest tape");
     }
 }

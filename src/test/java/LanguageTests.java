@@ -13,7 +13,7 @@ public final class LanguageTests {
     private static final List<String> LEFT_OUT = List.of("->", "::", "\\btry\\b", "\\bcatch\\b", "\\bfinally\\b",
             "\\bsynchronized\\b", "\\bassert\\b", "\\bprotected\\b", "\\bpackage\\b", "\\bStream\\b", "\\bSystem\\.(?!arraycopy)",
             "\\bMath\\.(?!max|min|abs)", "\\bequals\\(", "\\bhashCode\\(", "\\btoString\\(", "Exception\\(\\)?[^\")]*\\+",
-            "\\bwhile\\b", "Integer\\.", "[^\\x00-\\x7f]");
+            "\\bwhile\\b", "\\bextends\\b", "Integer\\.", "[^\\x00-\\x7f]");
     private static final Pattern METHOD = Pattern.compile("^ {4,8}[a-z][\\w\\[\\]<> ]* \\w+\\(([^)]*)\\).*$");
 
     private static int wrong = 0;

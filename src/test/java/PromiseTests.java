@@ -108,10 +108,18 @@ public final class PromiseTests {
         try {
             return "= " + method.invoke(organ, values);
         } catch (InvocationTargetException e) {
-            return "! " + e.getCause().getClass().getSimpleName();
+            return told(e.getCause());
         } catch (IllegalAccessException e) {
             return "! no access";
         }
+    }
+
+    /** Exceptions must come from a throw of the program itself, not from the machine or its library. */
+    static String told(Throwable thrown) {
+        StackTraceElement[] trace = thrown.getStackTrace();
+        boolean isOwn = trace.length > 0 && trace[0].getClassName().startsWith("Rankhall");
+        boolean isMachines = !isOwn || "/ by zero".equals(thrown.getMessage());
+        return "! " + thrown.getClass().getSimpleName() + (isMachines ? " by the machine" : "");
     }
 
     private static Object value(String text, Class<?> type) {
