@@ -301,9 +301,7 @@ public final class Rankhall {
 
     public int guest(int guest) throws IllegalArgumentException {
         needRange(guest, 0, Memory.GUESTS - 1);
-        int before = memory.guest;
-        memory.guest = guest;
-        return before;
+        return memory.changeGuest(guest);
     }
 
     public boolean claim(boolean is) throws UnsupportedOperationException {
@@ -315,9 +313,7 @@ public final class Rankhall {
 
     public int level(int level) throws IllegalArgumentException {
         needRange(level, 0, Memory.LEVELS - 1);
-        int before = memory.level;
-        memory.level = level;
-        return before;
+        return memory.changeLevel(level);
     }
 
     public boolean scope(int knob, boolean isIn) throws IndexOutOfBoundsException {
@@ -666,7 +662,8 @@ public final class Rankhall {
 
         Rank(int lowest, int highest, int division) {
             this.lowest = lowest;
-            this.division = division;
+            // an index for whoever asks a rank for it
+            this.division = isDivision(division) ? division : 0;
             int count = Math.max(0, Math.min(NOTES, highest - lowest + 1));
             pipes = new Pipe[count];
             for (int i = 0; i < count; i++) {
@@ -1398,8 +1395,9 @@ public final class Rankhall {
         static final int MOST_FRAMES = 20;
         private static final int DIVISIONALS = 4;
         private static final int PISTONS = GENERALS + DIVISIONS * DIVISIONALS;
-        int guest;
-        int level;
+        // both are indices below, so nothing else may change them
+        private int guest;
+        private int level;
         int next;
         private final boolean[] isSet = new boolean[LEVELS * PISTONS];
         private final long[] kept = new long[LEVELS * PISTONS];
@@ -1413,6 +1411,18 @@ public final class Rankhall {
         Memory() {
             Arrays.fill(reversibles, -1);
             Arrays.fill(owners, -1);
+        }
+
+        int changeGuest(int newGuest) {
+            int before = guest;
+            guest = newGuest < 0 || newGuest >= GUESTS ? guest : newGuest;
+            return before;
+        }
+
+        int changeLevel(int newLevel) {
+            int before = level;
+            level = newLevel < 0 || newLevel >= LEVELS ? level : newLevel;
+            return before;
         }
 
         boolean isClaimed() {
