@@ -19,6 +19,7 @@ public final class FaceTests {
         findVisible();
         playLong();
         playFull();
+        playMost();
         if (wrong > 0) {
             System.exit(1);
         }
@@ -141,5 +142,39 @@ public final class FaceTests {
         due(organ.playBack() == 18300, "not all pipes begin again");
         due(organ.begun(9, 96) == 60, "the last pipe has begun " + organ.begun(9, 96) + " times");
         due(organ.speaking() == 0 && organ.isTrue(), "it is not true behind the fullest tape");
+    }
+
+    /** As many calls as an object has, the most of them acts by which all 1280 pipes come to be wanted, or not any more. */
+    private static void playMost() {
+        Rankhall organ = new Rankhall();
+        int calls = 0;
+        for (int rank = 0; rank < 10; rank++) {
+            organ.rank(0, 127, 1, rank % 3, 0, 0, 1);
+            int knob = organ.stop(1);
+            // the keys 0 to 35 play by the couplers: notes from 0, 36, 72 and 92 upwards
+            for (int offset : new int[] {-36, 0, 36, 56}) {
+                organ.row(knob, rank, offset, 0, 60);
+            }
+            calls += 6;
+        }
+        organ.draw(organ.coupler(1, 1, 12, 'a'), true);
+        organ.draw(organ.coupler(1, 1, -12, 'a'), true);
+        for (int division = 0; division < 3; division++) {
+            organ.supply(division, 999);
+        }
+        for (int key = 12; key < 24; key++) {
+            organ.key(1, key, true);
+        }
+        organ.record('r');
+        calls += 20;
+        int acts = 0;
+        while (calls < 510) {
+            organ.tutti(acts % 2 == 0);
+            acts++;
+            calls++;
+        }
+        due(organ.recorded() == 1280 * acts, organ.recorded() + " pipes were recorded by " + acts + " acts");
+        int begun = organ.playBack();
+        due(begun == 1280 * acts / 2, begun + " pipes began by the last call");
     }
 }

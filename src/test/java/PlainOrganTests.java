@@ -1,9 +1,7 @@
-import java.lang.reflect.InvocationTargetException;
 import java.lang.reflect.Method;
 import java.util.ArrayList;
 import java.util.Arrays;
 import java.util.Comparator;
-import java.util.HashMap;
 import java.util.List;
 import java.util.Map;
 import java.util.Random;
@@ -26,21 +24,11 @@ public final class PlainOrganTests {
         random = new Random(seed);
     }
 
-    private static final Map<String, Method> METHODS = methodsOf(Rankhall.class);
-    private static final Map<String, Method> PLAIN_METHODS = methodsOf(PlainOrgan.class);
+    private static final Map<String, Method> METHODS = Call.methodsOf(Rankhall.class);
+    private static final Map<String, Method> PLAIN_METHODS = Call.methodsOf(PlainOrgan.class);
     private static final List<Method> ALL = METHODS.values().stream()
             .sorted(Comparator.comparing(Method::getName)).toList();
     private static final Map<String, Integer> ANSWERED = new TreeMap<>();
-
-    private static Map<String, Method> methodsOf(Class<?> type) {
-        Map<String, Method> methods = new HashMap<>();
-        for (Method method : type.getDeclaredMethods()) {
-            if (java.lang.reflect.Modifier.isPublic(method.getModifiers())) {
-                methods.put(method.getName(), method);
-            }
-        }
-        return methods;
-    }
 
     public static void main(String[] args) {
         int wrong = 0;
@@ -106,8 +94,8 @@ public final class PlainOrganTests {
     }
 
     private String compare(String name, Object[] values) {
-        String due = answer(PLAIN_METHODS.get(name), plain, values);
-        String got = answer(METHODS.get(name), organ, values);
+        String due = Call.answer(PLAIN_METHODS.get(name), plain, values);
+        String got = Call.answer(METHODS.get(name), organ, values);
         calls.add(name + Arrays.toString(values) + " " + due);
         if (!due.contains("Exception")) {
             ANSWERED.merge(name, 1, Integer::sum);
@@ -133,17 +121,6 @@ public final class PlainOrganTests {
             }
         }
         return null;
-    }
-
-    private static String answer(Method method, Object on, Object[] values) {
-        try {
-            return "= " + method.invoke(on, values);
-        } catch (InvocationTargetException e) {
-            Throwable thrown = e.getCause();
-            return on instanceof Rankhall ? PromiseTests.told(thrown) : "! " + thrown.getClass().getSimpleName();
-        } catch (IllegalAccessException e) {
-            throw new IllegalStateException(e);
-        }
     }
 
     private Object[] anything(Method method) {
