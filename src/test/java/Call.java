@@ -50,9 +50,13 @@ final class Call {
     /** A new organ on which some calls have been made already. */
     static Rankhall organBehind(List<Call> calls) {
         Rankhall organ = new Rankhall();
-        for (Call call : calls) {
-            call.answerOf(organ);
-        }
+        calls.forEach(call -> call.answerOf(organ));
+        return organ;
+    }
+
+    static PlainOrgan plainOrganBehind(List<Call> calls) {
+        PlainOrgan organ = new PlainOrgan();
+        calls.forEach(call -> call.answerOf(organ));
         return organ;
     }
 

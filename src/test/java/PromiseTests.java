@@ -179,12 +179,14 @@ public final class PromiseTests {
             Call asked = new Call(text.replace("*", String.valueOf(inside)));
             String got = asked.answerOf(Call.organBehind(before));
             due(got.startsWith("="), asked.text + " " + got + ", due is an answer");
+            dueAnswer(asked, got, asked.answerOf(Call.plainOrganBehind(before)));
             countCheck();
         }
         List<Call> outside = new ArrayList<>();
         for (int number : new int[] {range[0] - 1, range[1] + 1, Integer.MIN_VALUE, Integer.MAX_VALUE}) {
             Call asked = new Call(text.replace("*", String.valueOf(number)));
             dueAnswer(asked, asked.answerOf(Call.organBehind(before)), line.substring(close + 1).trim());
+            dueAnswer(asked, asked.answerOf(Call.plainOrganBehind(before)), line.substring(close + 1).trim());
             outside.add(asked);
             countCheck();
         }
